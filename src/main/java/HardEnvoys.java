@@ -217,6 +217,8 @@ public final class HardEnvoys {
         if (weights < 1) {
             return NO;
         }
+        settleAll();
+        holdAll();
         int sent = 0;
         long most = weighed(side, 0);
         for (int other = 1; other < counts[side]; other++) {
@@ -264,7 +266,7 @@ public final class HardEnvoys {
         int answer = NONE;
         for (int tried = wood; tried >= 0 && answer == NONE; tried--) {
             numbers[ORDERS] = tried;
-            if (meetAgainst(side, envoy, j) != NOTHING) {
+            if (meet(side == 0 ? envoy : j, side == 0 ? j : envoy) != NOTHING) {
                 answer = tried;
             }
         }
@@ -431,10 +433,6 @@ public final class HardEnvoys {
         return meeting.share;
     }
 
-    private int meetAgainst(int side, int own, int other) {
-        return side == 0 ? meet(own, other) : meet(other, own);
-    }
-
     private int conclude() {
         switch (way) {
             case OFFERS:
@@ -475,7 +473,7 @@ public final class HardEnvoys {
     /** Settles anew only the pairs in which a side goes itself: no other pair asks for its slope. */
     private void settleItself(int side) {
         for (int other = 0; other < counts[1 - side]; other++) {
-            meetAgainst(side, 0, other);
+            meet(side == 0 ? 0 : other, side == 0 ? other : 0);
         }
     }
 
@@ -510,7 +508,7 @@ public final class HardEnvoys {
     }
 
     private long holdsAgainst(int side, int own, int other) {
-        meetAgainst(side, own, other);
+        meet(side == 0 ? own : other, side == 0 ? other : own);
         return holdsNow(side, own);
     }
 
@@ -568,7 +566,8 @@ public final class HardEnvoys {
     private long weighed(int side, int own) {
         long sum = 0;
         for (int other = 0; other < counts[1 - side]; other++) {
-            sum += envoyAt(1 - side, other).likely * holdsAgainst(side, own, other);
+            int at = side == 0 ? cell(own, other) : cell(other, own);
+            sum += envoyAt(1 - side, other).likely * held[side][at];
         }
         return sum;
     }
@@ -909,45 +908,38 @@ public final class HardEnvoys {
             letters[4] = secondWalk;
             int top = 0;
             for (int at = 0; at < size; at++) {
-                top = workOne(codes[at], operands[at], top);
+                int code = codes[at];
+                int operand = operands[at];
+                if (code == NUMBER || code == LETTER) {
+                    if (top < MOST_CHARACTERS) {
+                        boolean isLetter = code == LETTER && operand >= 0 && operand < letters.length;
+                        stack[top] = isLetter ? letters[operand] : operand;
+                        top++;
+                    }
+                } else if (code == NEGATIVE || code == '!') {
+                    if (top >= 1) {
+                        stack[top - 1] = code == '!' ? (stack[top - 1] == 0 ? 1 : 0) : -stack[top - 1];
+                    }
+                } else if (top >= 2) {
+                    top--;
+                    stack[top - 1] = join(code, stack[top - 1], stack[top]);
+                }
             }
             return top > 0 ? stack[0] : 0;
-        }
-
-        /** Works one code on the stack, of which top are in use: how many are then. */
-        private int workOne(int code, int operand, int top) {
-            if (code == NUMBER || code == LETTER) {
-                if (top < MOST_CHARACTERS && operand >= 0) {
-                    stack[top] = code == NUMBER || operand >= letters.length ? operand : letters[operand];
-                    return top + 1;
-                }
-                return top;
-            }
-            if (code == NEGATIVE || code == '!') {
-                if (top >= 1) {
-                    stack[top - 1] = code == NEGATIVE ? -stack[top - 1] : truth(stack[top - 1] == 0);
-                }
-                return top;
-            }
-            if (top >= 2) {
-                stack[top - 2] = join(code, stack[top - 2], stack[top - 1]);
-                return top - 1;
-            }
-            return top;
         }
 
         private static long join(int sign, long left, long right) {
             switch (sign) {
                 case '|':
-                    return truth(left != 0 || right != 0);
+                    return left != 0 || right != 0 ? 1 : 0;
                 case '&':
-                    return truth(left != 0 && right != 0);
+                    return left != 0 && right != 0 ? 1 : 0;
                 case '<':
-                    return truth(left < right);
+                    return left < right ? 1 : 0;
                 case '>':
-                    return truth(left > right);
+                    return left > right ? 1 : 0;
                 case '=':
-                    return truth(left == right);
+                    return left == right ? 1 : 0;
                 case '+':
                     return left + right;
                 case '-':
@@ -957,10 +949,6 @@ public final class HardEnvoys {
                 default:
                     return right == 0 ? 0 : left / right;
             }
-        }
-
-        private static long truth(boolean holds) {
-            return holds ? 1 : 0;
         }
     }
 }

@@ -661,6 +661,11 @@ public final class PromisesTest {
         due("all products are 0: the least share is all for side 1", x.paid(1, 1, 0), 0);
         x.put(1, 1, ORDERS, 24);
         due("none settles: the least", x.paid(1, 1, 0), 0);
+        x.put(0, 0, SLOPE, 30);
+        x.put(0, 1, WALK, 200);
+        due("only for 20 he takes all", x.paid(0, 1, 0), 20);
+        x.put(0, 1, WALK, 201);
+        due("he is not paid 21", x.paid(0, 1, 0), 0);
         due("oneself", x.paid(0, 0, 0), -2);
         due("no such envoy", x.paid(0, 2, 0), -2);
         due("no such j", x.paid(0, 1, 2), -2);
@@ -831,8 +836,7 @@ public final class PromisesTest {
         x.put(0, 1, COST, 12);
         x.put(1, 1, COST, 12);
         due("they go themselves", x.rest(0), 0);
-        // A man brings a step more, worth the slope, for 12: with 13 each he is sent.
-        // But oneself's own slope does not change what one settles against an ENVOY without a walk.
+        // A harder man brings a step more, which is worth the SLOPE of oneself, for 12: from 13 he is sent.
         due("a steeper side 0", x.edge(0), 3);
         due("nothing is changed", x.put(0, 0, SLOPE, 10), 10);
         due("a steeper side 1", x.edge(1), 3);
