@@ -422,7 +422,11 @@ public final class BoundsTest {
         ruled(5, "5+-1/2");
         // Not 0 is a truth, below 0 too; a truth is 1 or 0.
         ruled(4, "3+(7&-7)");
+        ruled(4, "3+(-1&1)");
+        ruled(4, "3+(1&-1)");
+        ruled(4, "3+(-1|0)");
         ruled(3, "3+(7&0)");
+        ruled(3, "3+(0&7)");
         ruled(4, "3+(0|-7)");
         ruled(3, "3+(0|0)");
         ruled(3, "3+!-7");

@@ -9,7 +9,10 @@ public final class OracleTest {
     private static final int[] MOST = {60, 24, 200, 60, 500, 24, 24, 60, 200};
     private static final String SIGNS = "llunwv0123456789+-*/<>=&|!()() -z";
     private static final int RUNS = 400, LENGTH = 120;
+    // Only 512 calls of one object are promised; a step with a new text may take some eighty.
+    private static final int MOST_CALLS = 420;
 
+    private int calls = 0;
     private long seed = 20261118;
     private final Dues dues = new Dues();
 
@@ -45,11 +48,12 @@ public final class OracleTest {
     private void run(int kind) {
         HardEnvoys x = new HardEnvoys();
         Oracle o = new Oracle();
+        calls = 0;
         both(x, o, "set", 0, kind);
         for (int more = draw(5); more > 0; more--) {
             both(x, o, "envoy", draw(2));
         }
-        for (int step = 0; step < LENGTH; step++) {
+        for (int step = 0; step < LENGTH && calls < MOST_CALLS; step++) {
             if (draw(20) == 0) {
                 rewrite(x, o);
             }
@@ -164,20 +168,16 @@ public final class OracleTest {
     }
 
     private void both(HardEnvoys x, Oracle o, String name, int... v) {
-        StringBuilder call = new StringBuilder(name).append('(');
-        for (int at = 0; at < v.length; at++) {
-            call.append(at == 0 ? "" : ", ").append(v[at]);
-        }
-        dues.due(call.append(')').toString(), Calls.of(x, name, v), o.call(name, v));
+        calls++;
+        dues.due(Run.text(name, v), Calls.of(x, name, v), o.call(name, v));
     }
 
     /** Texts alone: every fault, each against the judgement by two states. */
     private void faults() {
         dues.begin("faults");
-        HardEnvoys x = new HardEnvoys();
         for (int turn = 0; turn < 20000; turn++) {
+            HardEnvoys x = new HardEnvoys();
             String text = draw(2) == 0 ? scrawl(draw(41)) : spoiled(sentence(5));
-            x.erase();
             for (int at = 0; at < text.length() && at < 40; at++) {
                 x.write(text.charAt(at));
             }

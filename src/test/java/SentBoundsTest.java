@@ -18,8 +18,11 @@ public final class SentBoundsTest {
         hasByLot();
         best();
         rest();
+        restOfUnlikeMany();
+        restByLot();
         restNone();
         lose();
+        loseOfUnlikeWorths();
         nothing();
         weight();
         thought();
@@ -33,6 +36,7 @@ public final class SentBoundsTest {
         middle();
         middleMore();
         edge();
+        edgeOfHimself();
         edgeNone();
         part();
         count();
@@ -134,6 +138,31 @@ public final class SentBoundsTest {
         run = run("16: all settle nothing").after("put", 0, 0, ORDERS, 11).envoys(2, 2).is(4, "rest", NONE);
     }
 
+    private static void restOfUnlikeMany() {
+        Run run = run("16: one SIDE has five, the other one").envoys(5, 1).is(5, "rest", NONE).is(40, "rest", 4);
+        run.is(NOTHING, "rest", 5).after("put", 0, 4, COST, 1).is(4, "rest", NONE).is(30, "rest", 3);
+        run.after("put", 0, 4, ORDERS, 11).is(1, "lose", 1).after("put", 0, 0, COST, 1).is(10, "rest", 0);
+        run = run("16: one SIDE has one, the other five").envoys(1, 5).is(5, "rest", NONE).is(4, "rest", 4);
+        run.is(NOTHING, "rest", 5).after("put", 1, 4, COST, 1).is(4, "rest", NONE).is(3, "rest", 3);
+        run.after("put", 1, 4, ORDERS, 11).is(1, "lose", 1).after("put", 1, 0, COST, 1).is(1, "rest", 0);
+        run = run("16: the last of three, against two").envoys(3, 2);
+        for (int envoy = 0; envoy < 2; envoy++) {
+            run.after("put", 0, envoy, COST, 1).after("put", 1, envoy, COST, 1 - envoy);
+        }
+        run.is(1, "rest", NONE).is(21, "rest", 0);
+    }
+
+    private static void restByLot() {
+        // Side 1's man has 4 steps, if 0 speaks, where oneself has none, and costs 15.
+        Run run = run("16: by LOT, what both HAVE in the mean").envoys(2, 2).after("set", 0, LOT);
+        run.after("put", 1, 1, ORDERS, 4).after("put", 1, 1, COST, 15).is(1, "rest", 0).is(1, "thought", 1).fraction(55, 1);
+        run.after("lot", 1, 4).is(0, "rest", 0).is(0, "thought", 1).fraction(75, 1);
+        // And side 0's man, if 1 speaks.
+        run = run("16: by LOT, for side 0").envoys(2, 2).after("set", 0, LOT);
+        run.after("put", 0, 1, ORDERS, 4).after("put", 0, 1, COST, 15).is(10, "rest", 0).is(1, "thought", 0).fraction(55, 1);
+        run.after("lot", 3, 4).is(0, "rest", 0).is(0, "thought", 0).fraction(75, 1);
+    }
+
     private static void restNone() {
         Run run = chase("16: none").keeps(0, "rest", NONE).is(NOTHING, "rest", 0).is(NOTHING, "rest", 1);
         run.refuses(-10, "rest", -2).is(0, "lose", 0);
@@ -152,6 +181,14 @@ public final class SentBoundsTest {
         // Not a REST: two who cost 11 are not sent, though both would lose by them.
         run.after("put", 0, 1, COST, 11).after("put", 1, 1, COST, 11).is(0, "rest", 0).is(0, "lose", 0);
         run("17: one pair").is(0, "lose", 0).is(0, "lose", 1);
+    }
+
+    /** Side 1 has 20 a step: 50 and 100, 40 and 115, 55 and 80, 45 and 95. */
+    private static void loseOfUnlikeWorths() {
+        Run run = trap("17: each less than it would HAVE itself").after("put", 1, 0, SLOPE, 20);
+        run.is(11, "rest", 0).is(1, "lose", 0).after("put", 0, 1, COST, 0).is(11, "rest", 0).is(0, "lose", 0);
+        run = trap("17: each less than it would HAVE itself").after("put", 0, 0, SLOPE, 20);
+        run.is(11, "rest", 0).is(1, "lose", 0).after("put", 1, 1, COST, 0).is(11, "rest", 0).is(0, "lose", 0);
     }
 
     private static void nothing() {
@@ -273,6 +310,8 @@ public final class SentBoundsTest {
             run.after("put", 1, 0, WALK, 21).is(NOTHING, "committee", 2, 1, 0);
             run.after("set", 2, 50).is(NOTHING, "committee", 2, 1, 0);
         }
+        run.after("put", 0, 0, WALK, 81).after("put", 1, 0, WALK, 20).is(NOTHING, "committee", 2, 1, 0);
+        run.after("set", 1, 8).is(NOTHING, "committee", 2, 1, 0).after("put", 0, 0, WALK, 80).after("put", 1, 0, WALK, 21);
         run.after("set", 0, PRODUCTS).is(7, "committee", 2, 1, 0).after("set", 0, LOT).is(7, "committee", 2, 1, 0);
         run.after("set", 0, RULE).tell("w/10").is(7, "committee", 2, 1, 0).tell("w/16").is(5, "committee", 2, 1, 0);
         run.tell("").is(0, "committee", 2, 1, 0).tell("9)").is(0, "committee", 2, 1, 0);
@@ -317,6 +356,9 @@ public final class SentBoundsTest {
         run.after("put", 1, 1, ORDERS, 0).after("put", 0, 0, SLOPE, 0).is(0, "middle", 1, 1, NONE);
         run.after("put", 0, 0, MARK, 7).after("put", 0, 0, BONUS, 1).is(1, "middle", 1, 1, NONE).is(7, "middle", 1, 1, 0);
         run.after("put", 0, 0, MARK, 5).is(0, "middle", 1, 1, NONE);
+        // Side 0 pays its man 60 a step: of none it has most.
+        run = run("24: SHARES from 0 on").envoys(2, 1).after("set", 0, RULE).tell("5").after("put", 0, 1, PAY, 60);
+        run.is(5, "middle", 1, 0, NONE).is(0, "middle", 1, 0, 0).is(4, "middle", 1, 0, 4).is(NOTHING, "middle", 1, 0, 5);
     }
 
     private static void edge() {
@@ -330,6 +372,24 @@ public final class SentBoundsTest {
         run.after("put", 0, 1, COST, 89).keeps(30, "edge", 0).after("put", 0, 1, COST, 90).keeps(NONE, "edge", 0);
         run.is(60, "put", 0, 0, SLOPE, 60);
         run("25: one pair is always the REST").keeps(NONE, "edge", 0).keeps(NONE, "edge", 1);
+    }
+
+    /**
+     * Oneself with a WALK of 40 settles 7 steps up to a SLOPE of 13, then 6: so from 14 on a man is sent who has
+     * ORDERS to take 7, for 5. Once the other side itself is met, once its man, who costs less.
+     */
+    private static void edgeOfHimself() {
+        for (int side = 0; side <= 1; side++) {
+            for (int others = 1; others <= 2; others++) {
+                Run run = run("25: oneself settles otherwise with another SLOPE, side " + side);
+                run.envoys(side == 0 ? 2 : others, side == 0 ? others : 2);
+                run.after("put", side, 0, WALK, 40).after("put", side, 1, ORDERS, 7).after("put", side, 1, COST, 5);
+                run.after("put", 1 - side, 0, COST, 50);
+                int met = side == 0 ? others - 1 : 10 * (others - 1);
+                run.is(met, "rest", 0).keeps(4, "edge", side).after("put", side, 0, SLOPE, 13).is(met, "rest", 0);
+                run.after("put", side, 0, SLOPE, 14).is(met + (side == 0 ? 10 : 1), "rest", 0);
+            }
+        }
     }
 
     private static void edgeNone() {
